@@ -983,7 +983,7 @@ public final class SpellTurner {
                 if (law.standsAt(now, at, length, next, done)) {
                     System.arraycopy(law.second, 0, next, done, law.second.length);
                     done += law.second.length;
-                    at += law.first.length - 1;
+                    at += Math.max(law.first.length, 1) - 1;
                     found = true;
                 } else {
                     next[done] = now[at];

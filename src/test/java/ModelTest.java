@@ -11,13 +11,16 @@ public final class ModelTest {
     private final SpellTurner x = new SpellTurner();
     private final Model m = new Model();
     private final String letters;
+    /** In some runs laws write long and there are many parts, so that words grow too long and have many forms. */
+    private final boolean wide;
     private int calls = 0;
     private int day = 0;
 
     private ModelTest(int run) {
         this.run = run;
         random = new Random(run);
-        letters = "abcdefgh".substring(0, 1 + random.nextInt(4));
+        wide = random.nextInt(4) == 0;
+        letters = "abcdefgh".substring(0, 1 + random.nextInt(wide ? 2 : 4));
     }
 
     public static void main(String[] args) {
@@ -85,7 +88,7 @@ public final class ModelTest {
             case 1: return "list " + told(2, 5) + " to " + told(0, 5);
             case 2: case 3: case 4: return "part " + told(1, 3);
             default:
-                StringBuilder law = new StringBuilder("law " + told(1, 2) + "to" + told(0, 3));
+                StringBuilder law = new StringBuilder("law " + told(1, 2) + "to" + told(0, wide ? 12 : 3));
                 law.append(random.nextInt(4) == 0 ? " start" : "").append(random.nextInt(4) == 0 ? " end" : "");
                 law.append(random.nextInt(4) == 0 ? "\nafter" + told(1, 2) : "").append(random.nextInt(4) == 0 ? " before " + told(1, 2) : "");
                 return law.append(random.nextInt(60) == 0 ? " start" : "").toString();

@@ -308,6 +308,8 @@ public final class PromiseTest {
         SpellTurner sum = Kit.withReforms("part 'a'; part 'ab'; part 'b'; law 'a' to 'abcdefghijkl' end;");
         due("24 of parts", Kit.turned(sum, "aa", 0, 1), "abcdefghijklabcdefghijkl");
         due("25 of parts", Kit.turned(sum, "aab", 0, 1), "abcdefghijklab");
+        SpellTurner part = Kit.withReforms("part 'a'; part 'aa'; law 'aa' to 'abcdefghijklmnop'; law 'b' to 'bcdefghijk'; law 'b' to '';");
+        due("a part that was too long for a while", Kit.turned(part, "aa", 0, 1), "aa");
         SpellTurner long16 = Kit.withReforms("law 'a' to 'abcdefghijklmnop';");
         due("16 for each", Kit.turned(long16, "aaaaaaaaaaaaaaaaaaaaaaaa", 0, 1), "");
         due("a word of 24 letters", Kit.turned(long16, "bbbbbbbbbbbbbbbbbbbbbbbb", 0, 1), "bbbbbbbbbbbbbbbbbbbbbbbb");
@@ -459,6 +461,11 @@ public final class PromiseTest {
     private static void usesUpToTooLong() {
         SpellTurner x = Kit.learn(Kit.withReforms("law 'a' to 'aa'; law 'a' to 'aaaaaaaa'; law 'a' to 'b';"), "aaaa");
         due("it is lost", x.tell(1, 1), 1);
+        SpellTurner parts = Kit.learn(Kit.withReforms("part 'a'; part 'b'; part 'c'; law 'a' to 'x'; law 'b' to 'bbbbbbbbbbbbb'; law 'b' to 'bb'; law 'b' to 'y'; law 'c' to 'z';"), "abc");
+        due("the parts ahead of it count, those behind it don't", parts.uses(0, 0) + " " + parts.uses(0, 1) + " " + parts.uses(0, 2)
+                + " " + parts.uses(0, 3) + " " + parts.uses(0, 4), "1 1 1 0 0");
+        SpellTurner sum = Kit.learn(Kit.withReforms("part 'a'; part 'c'; law 'a' to 'bbbbbbbbbbbbb'; law 'c' to 'z';"), "aac");
+        due("the sum is no law", sum.tell(1, 1) + " " + sum.uses(0, 0) + " " + sum.uses(0, 1), "1 1 1");
         due("up to the law behind which there is none", x.uses(0, 0) + " " + x.uses(0, 1) + " " + x.uses(0, 2), "1 1 0");
     }
 

@@ -35,12 +35,12 @@ public final class RoomTest {
 
     /** Six full reforms whose words have many partings, a full book, and each dear call again and again. */
     private static void dearRun() {
-        StringBuilder text = new StringBuilder();
+        StringBuilder text = new StringBuilder("law'a'to'b'start;");
         for (int n = 1; n <= 16; n++) {
             text.append("part'").append("a".repeat(n)).append("';");
         }
-        for (int n = 0; n < 40; n++) {
-            text.append("law'").append(n % 2 == 0 ? "ab" : "ba").append("'to'").append(n % 2 == 0 ? "b" : "ab").append("'start;");
+        for (int n = 0; n < 39; n++) {
+            text.append("law'").append(n % 2 == 0 ? "cb" : "bc").append("'to'").append(n % 2 == 0 ? "b" : "ab").append("'start;");
         }
         SpellTurner x = new SpellTurner();
         for (int r = 0; r < 6; r++) {
@@ -66,6 +66,8 @@ public final class RoomTest {
             Kit.load(x, page).mixed(1);
         }
         long bytes = made() - before;
+        Kit.load(x, "aaaaaaaaaaaaaaaaaaaaaaaa").turn(0, 6);
+        Kit.due("it had words of many forms", x.form(11, 23), (int) 'a');
         Kit.due("a dear run is small: " + bytes, bytes < MOST_BYTES, true);
     }
 
