@@ -841,11 +841,11 @@ public final class SpellTurner {
             if (count >= MOST_PARTINGS) {
                 return;
             }
-            if (at >= length || depth >= LONGEST_WORD) {
+            if (at >= length) {
                 note(depth);
                 return;
             }
-            for (int step = 1; step < STEPS && at + step <= length; step++) {
+            for (int step = 1; step < STEPS && at + step <= length && depth < LONGEST_WORD; step++) {
                 byte part = fitting[at * STEPS + step];
                 if (part != NONE) {
                     path[depth] = part;

@@ -18,7 +18,8 @@ public final class ModelTest {
 
     private ModelTest(int run) {
         this.run = run;
-        random = new Random(run);
+        // Seeds that lie close together begin alike, so they are spread.
+        random = new Random(run * 0x9E3779B97F4A7C15L);
         wide = random.nextInt(4) == 0;
         letters = "abcdefgh".substring(0, 1 + random.nextInt(wide ? 2 : 4));
     }
@@ -74,6 +75,7 @@ public final class ModelTest {
             case 1: return "";
             case 2: return letters(1, 3) + "A";
             case 3: case 4: case 5: return letters(8, 14);
+            case 6: case 7: case 8: return letters(wide ? 6 : 1, wide ? 9 : 6);
             default: return letters(1, 6);
         }
     }
@@ -96,6 +98,9 @@ public final class ModelTest {
     }
 
     private String reformText() {
+        if (wide && random.nextBoolean()) {
+            return manyForms();
+        }
         StringBuilder text = new StringBuilder();
         int items = random.nextInt(random.nextInt(20) == 0 ? 90 : 9);
         for (int n = 0; n < items && text.length() < 1800; n++) {
@@ -106,6 +111,17 @@ public final class ModelTest {
         }
         if (random.nextInt(30) == 0 && text.length() > 0) {
             text.setLength(random.nextInt(text.length()));
+        }
+        return text.toString();
+    }
+
+    /** Laws that look at the ends of parts: words have a form for nearly each of their partings. */
+    private String manyForms() {
+        StringBuilder text = new StringBuilder("part'a';part'aa';part'b';part'ba';");
+        int laws = 1 + random.nextInt(4);
+        for (int n = 0; n < laws; n++) {
+            text.append("law").append(told(1, 1)).append("to").append(told(0, random.nextInt(3) == 0 ? 12 : 2));
+            text.append(random.nextBoolean() ? "start;" : "end;");
         }
         return text.toString();
     }

@@ -13,7 +13,7 @@ public final class RoomTest {
         newObjects();
         dearRun();
         for (int seed = 0; seed < 400; seed++) {
-            wildRun(new Random(seed));
+            wildRun(new Random(seed * 0x9E3779B97F4A7C15L));
         }
         Kit.due("wild runs ended", true, true);
         Kit.close();
