@@ -3,6 +3,10 @@ import java.util.function.IntUnaryOperator;
 
 /** What the tests share: feeding texts, reading answers back as texts, and counting what is wrong. */
 final class Kit {
+    static final int[] FAR = {Integer.MIN_VALUE, -100001, -1000, 1000, 100002, Integer.MAX_VALUE};
+
+    private static final int PROMISES = 26;
+    private static final int[] checksOf = new int[PROMISES + 1];
     private static int checks = 0;
     private static int wrong = 0;
 
@@ -17,6 +21,19 @@ final class Kit {
         }
     }
 
+    /** One boundary of a promise: its number goes into what is printed, and is counted. */
+    static void promise(int number, String edge, Object got, Object want) {
+        checksOf[number]++;
+        due("promise " + number + ": " + edge, got, want);
+    }
+
+    /** Fails when one of these promises was not looked at. */
+    static void covered(int from, int to) {
+        for (int number = from; number <= to; number++) {
+            due("promise " + number + " has a test", checksOf[number] > 0, true);
+        }
+    }
+
     static void close() {
         System.out.println(checks + " checks, " + wrong + " wrong");
         if (wrong != 0 || checks == 0) {
@@ -26,12 +43,17 @@ final class Kit {
 
     /** Puts a text alone on the tape. */
     static SpellTurner load(SpellTurner x, String text) {
-        byte[] bytes = text.getBytes(StandardCharsets.ISO_8859_1);
         x.end(0);
+        return put(x, text);
+    }
+
+    /** Puts a text on a tape that is empty, with few calls: an object is good for 512. */
+    static SpellTurner put(SpellTurner x, String text) {
+        byte[] bytes = text.getBytes(StandardCharsets.ISO_8859_1);
         for (int at = 0; at < bytes.length; at += 20) {
             x.feed(four(bytes, at), four(bytes, at + 4), four(bytes, at + 8), four(bytes, at + 12), four(bytes, at + 16));
         }
-        if (x.end(bytes.length) != bytes.length) {
+        if (bytes.length % 20 != 0 && x.end(bytes.length) != bytes.length) {
             throw new IllegalStateException("the tape did not take " + text);
         }
         return x;
@@ -48,8 +70,10 @@ final class Kit {
     /** The letters that a call answers one by one, up to NONE. */
     static String spell(IntUnaryOperator letter) {
         StringBuilder all = new StringBuilder();
-        for (int i = 0; i < 3000 && letter.applyAsInt(i) != SpellTurner.NONE; i++) {
-            all.append((char) letter.applyAsInt(i));
+        int next = letter.applyAsInt(0);
+        for (int i = 1; i < 3000 && next != SpellTurner.NONE; i++) {
+            all.append((char) next);
+            next = letter.applyAsInt(i);
         }
         return all.toString();
     }
@@ -107,7 +131,7 @@ final class Kit {
     static SpellTurner withReforms(String... texts) {
         SpellTurner x = new SpellTurner();
         for (int r = 0; r < texts.length; r++) {
-            if (load(x, texts[r]).reform(r + 1) != r) {
+            if (put(x, texts[r]).reform(r + 1) != r) {
                 throw new IllegalStateException("no reform: " + texts[r]);
             }
         }
@@ -116,7 +140,7 @@ final class Kit {
 
     static SpellTurner learn(SpellTurner x, String... words) {
         for (String word : words) {
-            load(x, word).learn();
+            put(x, word).learn();
         }
         return x;
     }
