@@ -24,6 +24,7 @@ public final class BookEdgesTest {
         collisionPairs();
         twoHundredCollisions();
         allCollide();
+        longestForms();
         fullBookAtTwoStages();
         fullBookAtTheLastStage();
         collisionOfTheLatest();
@@ -197,6 +198,27 @@ public final class BookEdgesTest {
         due(17, "1000 times the lesser and the other", x.collision(0) + " " + x.collision(98) + " " + x.collision(99) + " " + x.collision(199), "1 99 1002 2005");
         due(17, "no more than 200 are told", x.collision(200) + " " + x.collision(4949), "-1 -1");
         due(16, "none at stage 0", x.collisions(0) + " " + x.collision(0), "0 -1");
+    }
+
+    /** Words and forms of 24 letters, up to the last of them. */
+    private static void longestForms() {
+        String a23 = "a".repeat(23);
+        SpellTurner x = Kit.learn(Kit.withReforms("law 'z' to 'y' end;", "part 'a'; part 'y'; law 'y' to 'x' start;"), a23 + "z", a23 + "y", "b" + a23, "q".repeat(20) + "aaay");
+        due(16, "24 letters in common", x.collisions(1) + " " + x.collision(0), "1 1");
+        due(16, "24 letters in common behind two reforms", x.collisions(2) + " " + x.collision(0), "1 1");
+        due(14, "24 letters made of 24 parts", Kit.put(x, a23 + "x").back(2) + " " + x.old(0) + x.old(1), "2 01");
+        due(20, "24 letters made of 24 parts", x.uses(1, 0), 2);
+        due(19, "24 letters that stay", x.tell(1, 2) + " " + x.tell(2, 2), "3 2");
+        SpellTurner rhyme = Kit.learn(Kit.withReforms("law 'z' to 'y' end;", "law 'y' to 'x' end;"), a23 + "z", "b" + "a".repeat(22) + "z", "aaz");
+        due(18, "24 letters that still rhyme", rhyme.rhymes(1) + " " + rhyme.rhymes(2), "0 0");
+        SpellTurner full = Kit.withReforms("");
+        for (int n = 0; n < 99; n++) {
+            Kit.learn(full, binary(n));
+        }
+        Kit.learn(full, a23 + "z");
+        due(19, "24 letters as the 100th word", full.tell(1, 2), 100);
+        due(13, "24 letters as the 100th word", full.word(99, 23) + " " + full.word(99, 24), "122 -1");
+        due(12, "24 letters as the 100th word are known", Kit.put(full, a23 + "z").learn(), 99);
     }
 
     /** Words of a full book are still told apart from forms at the next stage. */

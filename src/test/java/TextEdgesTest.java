@@ -166,10 +166,14 @@ public final class TextEdgesTest {
     }
 
     private static void longestTape() {
-        SpellTurner x = Kit.withReforms("law 'a' to 'bb'; law 'n' to '' after 'm';");
+        String reform = "law 'a' to 'bb'; law 'n' to '' after 'm';";
+        SpellTurner x = Kit.withReforms(reform);
         due(21, "2000 bytes to 2500", Kit.put(x, "a..".repeat(500) + ".".repeat(500)).write(0, 1) + " " + x.written(2499), "2500 46");
         due(21, "2000 bytes to 2501", Kit.put(x, "a..".repeat(501) + ".".repeat(497)).write(0, 1), NONE);
         due(21, "1000 words", Kit.put(x, "b ".repeat(1000)).write(0, 1) + " " + Kit.counted(x), "2000 1000 0 0 0 0");
+        x = Kit.withReforms(reform);
+        due(21, "the last byte of a full tape is a word's", Kit.put(x, ".".repeat(1998) + "ba").write(0, 1) + " " + x.written(2000) + " " + Kit.counted(x), "2001 98 1 1 0 0 0");
+        due(23, "a word at the end of a full tape that stays", Kit.put(x, ".".repeat(1976) + "b".repeat(24)).write(0, 1) + " " + Kit.counted(x), "2000 1 0 0 0 0");
         due(21, "too long for a while, but not in the end", Kit.put(x, "a..".repeat(501) + "mnnnn.".repeat(80) + ".".repeat(17)).write(0, 1), 2501 - 320);
     }
 
@@ -270,6 +274,8 @@ public final class TextEdgesTest {
         due(24, "far more lines", Kit.put(x, "\n".repeat(2000)).mixed(1), NONE);
         due(24, "13 and 32 part none", Kit.put(x, "b\r b").mixed(1) + " " + Kit.lines(x), "0 1");
         due(24, "a 10 in a quote parts too", Kit.put(x, "\"b\n\" b").mixed(1) + " " + Kit.lines(x), "0 11");
+        SpellTurner full = mixedBook();
+        due(24, "a word at the end of a full tape", Kit.put(full, ".".repeat(1998) + "xb").mixed(1) + " " + Kit.lines(full), "0 1");
         due(24, "2000 bytes in one line", Kit.put(x, "q ".repeat(1000)).mixed(1) + " " + Kit.lines(x), "1000 0");
     }
 
