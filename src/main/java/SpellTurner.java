@@ -560,7 +560,6 @@ public final class SpellTurner {
             becomes.count = 0;
             keptCount = 0;
             turnedParts.count = 0;
-            Arrays.fill(kept, false);
         }
 
         boolean isKept(int entry) {
@@ -576,11 +575,20 @@ public final class SpellTurner {
 
         /** A kept word becomes nothing, so that entries and what they become stay side by side. */
         void addKept(byte[] from, int start, int length) {
+            addEntry(from, start, length, true);
+            becomes.add(from, start, 0);
+        }
+
+        void addListed(byte[] from, int start, int length) {
+            addEntry(from, start, length, false);
+        }
+
+        /** Tells of each entry whether it is kept: a draft that is used again may hold another answer. */
+        private void addEntry(byte[] from, int start, int length, boolean stays) {
             if (!entries.isFull()) {
-                kept[entries.count] = true;
-                keptCount++;
+                kept[entries.count] = stays;
+                keptCount += stays ? 1 : 0;
                 entries.add(from, start, length);
-                becomes.add(from, start, 0);
             }
         }
     }
@@ -642,7 +650,7 @@ public final class SpellTurner {
 
         private void readList(Reform reform) {
             if (hasRoom(!reform.entries.isFull()) && takeNew(reform.entries)) {
-                reform.entries.add(text, start, length);
+                reform.addListed(text, start, length);
                 if (takeTo() && takeLetters(true)) {
                     reform.becomes.add(text, start, length);
                     takeClose();
